@@ -653,6 +653,9 @@ public final class TickPlans {
 
     /** HANGS TOGETHER, STRONG, WEAK. */
     private static final class Choices {
+        private static final int ALL_LOW = 0;
+        private static final int ALL_HIGH = (1 << GIFT_LIMIT) - 1;
+
         private final long[] steps = new long[MOMENT_LIMIT * MOMENT_LIMIT];
         private boolean spoiledIsKnown;
         private int spoiled;
@@ -690,8 +693,8 @@ public final class TickPlans {
             // GIFTS behind both ends have one length in both: they say nothing.
             int onlyA = behindA & ~behindB;
             int onlyB = behindB & ~behindA;
-            long most = sumOfHighs(net, onlyB) - sumOfLows(net, onlyA);
-            long least = sumOfLows(net, onlyB) - sumOfHighs(net, onlyA);
+            long most = sumOfLengths(net, onlyB, ALL_HIGH) - sumOfLengths(net, onlyA, ALL_LOW);
+            long least = sumOfLengths(net, onlyB, ALL_LOW) - sumOfLengths(net, onlyA, ALL_HIGH);
             Steps.lowerBothWays(steps, rootOf(net, a), rootOf(net, b),
                     net.linkLow(l) - least, net.linkHigh(l) - most);
         }
@@ -722,18 +725,12 @@ public final class TickPlans {
             return mask;
         }
 
-        private static long sumOfLows(Net net, int mask) {
+        private static long sumOfLengths(Net net, int mask, int choice) {
             long sum = 0;
             for (int g = 0; g < net.giftCount(); g++) {
-                sum += (mask >> g & 1) * net.giftLow(g);
-            }
-            return sum;
-        }
-
-        private static long sumOfHighs(Net net, int mask) {
-            long sum = 0;
-            for (int g = 0; g < net.giftCount(); g++) {
-                sum += (mask >> g & 1) * net.giftHigh(g);
+                if ((mask >> g & 1) == 1) {
+                    sum += net.chosenLength(g, choice);
+                }
             }
             return sum;
         }
@@ -819,8 +816,10 @@ public final class TickPlans {
             Steps.ofAllLinks(net, edges);
             beginDelays(net);
             int verdict = GOES_ON;
-            for (count = 0; count < ROUND_LIMIT && verdict == GOES_ON; count++) {
+            count = 0;
+            for (int round = 1; round <= ROUND_LIMIT && verdict == GOES_ON; round++) {
                 verdict = doRound(net);
+                count = round;
             }
             alive = verdict == ENDS_LIVELY;
             known = true;

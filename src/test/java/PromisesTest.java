@@ -43,6 +43,7 @@ public final class PromisesTest {
         rounds();
         edge();
         waits();
+        waitsOverGifts();
         start();
         happen();
         goOn();
@@ -703,6 +704,45 @@ public final class PromisesTest {
         y.gift(0, 1, 2, 5);
         y.wish(2, 1, 1, 4);
         due("ahead of the end", -1, y.wait(2, 0));
+    }
+
+    /** GIFTS 0 to 1 and 2 to 3, and 1 is not to come ahead of 3: so 0 has to wait for the other GIFT. */
+    private static TickPlans crossingNet(int low) {
+        TickPlans x = net(4);
+        x.gift(0, 1, low, 6);
+        x.gift(2, 3, 1, 5);
+        x.wish(3, 1, 0, 100);
+        return x;
+    }
+
+    private static void waitsOverGifts() {
+        part = "promise 19, over gifts";
+        TickPlans x = crossingNet(3);
+        due("lively", 1, x.lively());
+        due("rounds", 3, x.rounds());
+        due("a wait over a gift", -2, x.wait(0, 1));
+        // In the first ROUND W(0, 1) was 6 less 5, and became an edge; E(1, 2) follows in the second.
+        due("what was a wait at first", 1, x.edge(0, 2));
+        due("along it", -2, x.edge(1, 2));
+        due("a wait that became an edge", 94, x.edge(3, 0));
+        x.start();
+        due("0 waits", 1, x.goOn());
+        due("2 came", 0, x.came(2));
+        due("too early", 0, x.may(0));
+        x.happen(3);
+        due("the other gift is there", 1, x.may(0));
+        x.start();
+        x.goOn();
+        due("one tick", 1, x.idle(100));
+        due("the wait is over", 1, x.may(0));
+        // The wait is as short as the least length: nothing can come to know ahead of it.
+        TickPlans y = crossingNet(4);
+        due("lively", 1, y.lively());
+        due("rounds", 4, y.rounds());
+        due("the wait", -1, y.wait(0, 1));
+        due("is an edge", -1, y.edge(0, 2));
+        due("along it", -5, y.edge(1, 2));
+        due("along it", 4, y.edge(0, 3));
     }
 
     private static void start() {
