@@ -145,15 +145,17 @@ public final class VariantsTest {
     }
 
     private static void deepestWait() {
-        Variant x = withDeepest(-5);
-        x.call("moments", 2);
-        x.call("gift", 0, 1, 2, 5);
-        x.due("W is as deep as can be: lively", 1);
-        x.due("rounds", 2);
-        x.call("tighten", 0, 2, 6);
-        x.due("one deeper: lively", 0);
-        x.due("it ends at once: rounds", 1);
-        x.due("wait", 0, 1, 0);
+        for (int end = 0; end < 2; end++) {
+            Variant x = withDeepest(-5);
+            x.call("moments", 2);
+            x.call("gift", 1 - end, end, 2, 5);
+            x.due("W is as deep as can be: lively", 1);
+            x.due("rounds", 2);
+            x.call("tighten", 0, 2, 6);
+            x.due("one deeper: lively", 0);
+            x.due("it ends at once: rounds", 1);
+            x.due("wait", 0, end, 0);
+        }
     }
 
     /** In this copy idle goes on though one MAY come. */
