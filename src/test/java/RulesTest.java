@@ -39,6 +39,8 @@ public final class RulesTest {
         String code = source.replaceAll("(?s)/\\*.*?\\*/", "").replaceAll("//[^\n]*", "");
         words(code);
         making(code);
+        parts(source);
+        methodLengths(code);
         System.out.println(wrong == 0 ? "the face and the rules hold" : wrong + " rules do not hold");
         if (wrong != 0) {
             System.exit(1);
@@ -110,6 +112,37 @@ public final class RulesTest {
         while (imports.find()) {
             holds(imports.group(1).equals("java.util.Arrays"), "import of " + imports.group(1));
         }
+    }
+
+    /** What the interface says ahead of its calls: they stand in the document's order under these lines. */
+    private static void parts(String source) {
+        String[][] parts = {
+            {"---- 1 nets", "moments", "wish", "gift", "undo", "tighten", "link", "feed", "trim", "read"},
+            {"---- 2 what hangs together", "together", "distance", "strong", "weak", "spoiler"},
+            {"---- 3 waits", "lively", "rounds", "edge", "wait"},
+            {"---- 4 runs", "start", "happen", "goOn", "idle", "came", "may", "now", "check", "told"}};
+        int place = 0;
+        for (String[] part : parts) {
+            for (int i = 0; i < part.length; i++) {
+                String line = i == 0 ? "// " + part[i] + "\n" : "public (int|long) " + part[i] + "\\(";
+                Matcher found = Pattern.compile(line).matcher(source);
+                boolean there = found.find(place);
+                holds(there, "in its place: " + part[i]);
+                place = there ? found.end() : place;
+            }
+        }
+    }
+
+    /** LANGUAGE.md, rule 11: methods stay short (some sixty lines). */
+    private static void methodLengths(String code) {
+        Matcher methods = Pattern.compile("(?m)^( +)[^\n;=]*\\) \\{\\n(?:(?!\\1\\}).*\\n)*\\1\\}$").matcher(code);
+        int count = 0;
+        while (methods.find()) {
+            count++;
+            long lines = methods.group().lines().count();
+            holds(lines <= 60, lines + " lines: " + methods.group().lines().findFirst().orElse(""));
+        }
+        holds(count > 28, "methods are seen: " + count);
     }
 
     /** Rows are made with the object: every "new" fills a field, none stands in a call. */

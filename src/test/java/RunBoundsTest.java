@@ -362,6 +362,7 @@ public final class RunBoundsTest {
         Cases.sentence("Promise 21: STATE: no RUN", () -> {
             Cases.refused("happen", STATE, Cases::waiting, x -> x.happen(1));
             Cases.refused("a torn net", STATE, Cases::torn, x -> x.happen(1));
+            Cases.refused("in a RUN that a change ended", STATE, RunBoundsTest::ended, x -> x.happen(1));
         });
         Cases.sentence("Promise 21: STATE: it is not GIVEN", () -> {
             Cases.refused("one that is chosen", STATE, Cases::running, x -> x.happen(2));
@@ -390,6 +391,13 @@ public final class RunBoundsTest {
         return x;
     }
 
+    /** Without its last change, the GIVEN one could come, and the other one would have to wait. */
+    private static TickPlans ended() {
+        TickPlans x = ticksBehind(3, false);
+        x.tighten(1, 0, 3);
+        return x;
+    }
+
     private static TickPlans aheadOfBeginning() {
         TickPlans x = Cases.chain(2);
         x.start();
@@ -404,6 +412,15 @@ public final class RunBoundsTest {
         x.happen(1);
         x.goOn();
         due("once it has", 1, x.happen(2));
+        TickPlans y = Cases.net(3);
+        y.wish(2, 0, 20, 20);
+        y.gift(0, 1, 1, 100000);
+        y.start();
+        for (int tick = 0; tick <= 20; tick++) {
+            due("any length would do, but for none, tick " + tick, STATE, y.happen(1));
+            y.goOn();
+        }
+        due("a tick behind the beginning", 1, y.happen(1));
     }
 
     private static void notSoManyTicks() {
@@ -600,7 +617,10 @@ public final class RunBoundsTest {
             }
             Cases.refused("16 of 16", UNKNOWN, Cases::fullRunning, x -> x.may(16));
         });
-        Cases.sentence("Promise 25: STATE: no RUN", () -> Cases.refused("may", STATE, Cases::waiting, x -> x.may(0)));
+        Cases.sentence("Promise 25: STATE: no RUN", () -> {
+            Cases.refused("may", STATE, Cases::waiting, x -> x.may(0));
+            Cases.refused("in a RUN that a change ended", STATE, RunBoundsTest::ended, x -> x.may(2));
+        });
         Cases.sentence("Promise 25: STATE: it is GIVEN", () -> Cases.refused("may", STATE, Cases::running, x -> x.may(1)));
         Cases.sentence("Promise 25: STATE: has come", () -> {
             Cases.refused("may", STATE, Cases::running, x -> x.may(0));
