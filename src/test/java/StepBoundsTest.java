@@ -6,9 +6,10 @@ public final class StepBoundsTest {
     private static final int LEAST = Cases.LEAST;
     private static final int GREATEST = Cases.GREATEST;
 
-    /** Found by a search for many ROUNDS; 12 are the most that it met. */
-    private static final String LONG_WAY_TO_LIVELY = "m 12;g 4 1 6 111;g 11 5 44 92;g 3 4 8 113;g 0 7 2 97;"
-            + "g 1 8 1 224;w 9 8 -12 28;g 7 3 1 3;w 8 5 -99916 22;";
+    /** Found by a search for many ROUNDS; 14 are the most that it met. */
+    private static final String LONG_WAY_TO_LIVELY = "m 15;g 5 4 1 786;w 3 4 -4 -4;g 11 6 17 571;g 12 5 30 246;"
+            + "w 7 9 -1685 1;w 2 3 -22 165;g 4 7 43 957;g 14 12 5 100;w 13 8 -11 468;w 3 6 -99489 146;"
+            + "g 13 11 902 1006;w 7 1 -174 31;w 9 8 -100000 -795;";
     private static final String LONG_WAY_TO_A_RING = "m 7;g 0 1 254 1325;w 5 4 -100000 54;g 6 0 318 901;"
             + "g 4 5 150 1415;w 5 2 -99027 -2028;g 3 4 606 1067;g 1 3 144 1533;g 2 6 293 2031;";
 
@@ -560,7 +561,7 @@ public final class StepBoundsTest {
             due("one link", 1, x.rounds());
             TickPlans y = new TickPlans();
             Cases.readText(y, LONG_WAY_TO_LIVELY);
-            due("a long way", 12, y.rounds());
+            due("a long way", 14, y.rounds());
             due("lively", 1, y.lively());
             Cases.readText(y, LONG_WAY_TO_A_RING);
             due("a long way to a ring", 6, y.rounds());
